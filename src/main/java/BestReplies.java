@@ -19,8 +19,7 @@ public final class BestReplies {
     /** Rows and columns that no round took away, as bits. */
     private final int[] there = new int[2];
 
-    private final Divider divider = new Divider();
-    private final Table[] tables = {new Table(divider), new Table(divider)};
+    private final Table[] tables = {new Table(), new Table()};
     /** What entered, what left and the table, each by the step's number. */
     private final int[][] path = new int[3][MOST_STEPS];
     private int steps = 0;
@@ -38,6 +37,7 @@ public final class BestReplies {
     private final Big product = new Big();
     private final Big own = new Big();
     private final Fraction hand = new Fraction();
+    private final Divider divider = new Divider();
 
     public BestReplies() {
     }
@@ -566,11 +566,7 @@ public final class BestReplies {
         private Big scale = new Big();
         private final Big left = new Big();
         private final Big right = new Big();
-        private final Divider divider;
-
-        Table(Divider divider) {
-            this.divider = divider;
-        }
+        private final Divider divider = new Divider();
 
         void start(Payoffs payoffs, int rowLabel, int columnLabel) {
             rows = payoffs.owns;
