@@ -33,7 +33,8 @@ public final class DivisionTest {
         }
         for (int i = 0; i < 2000 && Check.isAllAsDue(); i++) {
             BigInteger factor = number(random, 3).abs().add(BigInteger.ONE);
-            common(divider, number(random, 8).multiply(factor), number(random, 8).abs().add(BigInteger.ONE).multiply(factor));
+            BigInteger below = number(random, 8).abs().add(BigInteger.ONE);
+            common(divider, number(random, 8).multiply(factor), below.multiply(factor));
         }
         Check.finish();
     }

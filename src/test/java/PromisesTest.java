@@ -1,5 +1,3 @@
-import java.math.BigInteger;
-
 /** Each promise by itself: ordinary inputs, the edges that the document names, wrong inputs and their order. */
 public final class PromisesTest {
     private static final int MIN = Integer.MIN_VALUE;
@@ -18,7 +16,6 @@ public final class PromisesTest {
         weightsTogether();
         list();
         listOrderAndTies();
-        listStopsAtHundred();
         support();
         strategy();
         gets();
@@ -35,42 +32,6 @@ public final class PromisesTest {
         Check.finish();
     }
 
-    // ---- games that several promises use
-
-    /** A: 3, 0 / 0, 1; B: 1, 0 / 0, 3/2. Two pure equilibria and x = 3/5, 2/5 with y = 1/4, 3/4. */
-    private static BestReplies two() {
-        BestReplies x = new BestReplies();
-        x.game(2, 2);
-        x.pay(0, 0, 0, 3, 1);
-        x.pay(0, 1, 1, 1, 1);
-        x.pay(1, 0, 0, 1, 1);
-        x.pay(1, 1, 1, 3, 2);
-        return x;
-    }
-
-    private static void tellPure(BestReplies x, int row, int column) {
-        x.weight(0, row, 1, 1);
-        x.weight(1, column, 1, 1);
-    }
-
-    private static String hand(BestReplies x) {
-        return (x.sign() < 0 ? "-" : "") + number(x, false) + "/" + number(x, true);
-    }
-
-    private static BigInteger number(BestReplies x, boolean below) {
-        BigInteger all = BigInteger.ZERO;
-        for (int k = 9; k >= 0; k--) {
-            BigInteger word = new BigInteger(Long.toUnsignedString(x.part(below, k)));
-            all = all.shiftLeft(64).or(word);
-        }
-        return all;
-    }
-
-    private static String nothing(Runnable call) {
-        call.run();
-        return "nothing";
-    }
-
     // ---- promises 1 to 3
 
     private static void newObject() {
@@ -79,11 +40,11 @@ public final class PromisesTest {
         for (int what = 0; what < due.length; what++) {
             Check.due("1: told " + what, x.told(what), due[what]);
         }
-        Check.due("1: the number at hand", hand(x), "0/1");
-        Check.state("1: pay", () -> nothing(() -> x.pay(5, 9, 9, 0, 0)));
+        Check.due("1: the number at hand", Games.hand(x), "0/1");
+        Check.state("1: pay", () -> Check.nothing(() -> x.pay(5, 9, 9, 0, 0)));
         Check.state("1: run", () -> x.run(-1));
         Check.state("1: step", () -> x.step(-1, 9));
-        Check.state("1: weight", () -> nothing(() -> x.weight(7, 7, -1, 0)));
+        Check.state("1: weight", () -> Check.nothing(() -> x.weight(7, 7, -1, 0)));
         Check.state("1: list", () -> x.list());
         Check.state("1: index", () -> x.index(0));
         Check.state("1: round", () -> x.round());
@@ -102,8 +63,8 @@ public final class PromisesTest {
         BestReplies x = new BestReplies();
         int[] wrong = {0, 7, -1, MIN, MAX};
         for (int each : wrong) {
-            Check.argument("2: rows " + each, () -> nothing(() -> x.game(each, 3)));
-            Check.argument("2: columns " + each, () -> nothing(() -> x.game(3, each)));
+            Check.argument("2: rows " + each, () -> Check.nothing(() -> x.game(each, 3)));
+            Check.argument("2: columns " + each, () -> Check.nothing(() -> x.game(3, each)));
             Check.due("2: no game after a wrong one", x.told(0), 0);
         }
         for (int m = 1; m <= 6; m++) {
@@ -119,8 +80,8 @@ public final class PromisesTest {
     }
 
     private static void gameReplaces() {
-        BestReplies x = two();
-        tellPure(x, 0, 0);
+        BestReplies x = Games.two();
+        Games.tellPure(x, 0, 0);
         x.run(1);
         x.list();
         x.strategy(2, 0, 0);
@@ -129,11 +90,11 @@ public final class PromisesTest {
         Check.due("2: entries are gone", x.told(3), 0);
         Check.due("2: the missing label is gone", x.told(4), -1);
         Check.due("2: LB is new", x.told(6), 1);
-        Check.due("2: the number at hand stays", hand(x), "3/5");
+        Check.due("2: the number at hand stays", Games.hand(x), "3/5");
         Check.state("2: no run", () -> x.judge(-1));
         Check.state("2: no list", () -> x.judge(0));
         Check.state("2: weights told are 0", () -> x.judge(-2));
-        tellPure(x, 1, 2);
+        Games.tellPure(x, 1, 2);
         Check.due("2: no weight is left", x.support(-2, 0), 2);
         Check.due("2: payoffs are 0", x.gets(-2, 0, 0), 0);
         x.pay(0, 0, 0, 1, 1);
@@ -144,7 +105,7 @@ public final class PromisesTest {
         x.game(2, 2);
         Check.due("2: all are there", x.isThere(0, 1), true);
         x.run(0);
-        Check.argument("2: a wrong game", () -> nothing(() -> x.game(2, 0)));
+        Check.argument("2: a wrong game", () -> Check.nothing(() -> x.game(2, 0)));
         Check.due("2: a wrong game leaves the run", x.told(4), 0);
         Check.due("2: a wrong game leaves the game", x.told(1), 2);
     }
@@ -154,40 +115,40 @@ public final class PromisesTest {
         x.game(2, 3);
         int[] wrongPlayers = {-1, 2, MIN, MAX};
         for (int each : wrongPlayers) {
-            Check.argument("3: player " + each, () -> nothing(() -> x.pay(each, 0, 0, 1, 1)));
+            Check.argument("3: player " + each, () -> Check.nothing(() -> x.pay(each, 0, 0, 1, 1)));
         }
         for (int player = 0; player < 2; player++) {
             int p = player;
-            Check.argument("3: row 2", () -> nothing(() -> x.pay(p, 2, 0, 1, 1)));
-            Check.argument("3: row -1", () -> nothing(() -> x.pay(p, -1, 0, 1, 1)));
-            Check.argument("3: column 3", () -> nothing(() -> x.pay(p, 0, 3, 1, 1)));
-            Check.argument("3: column -1", () -> nothing(() -> x.pay(p, 0, -1, 1, 1)));
+            Check.argument("3: row 2", () -> Check.nothing(() -> x.pay(p, 2, 0, 1, 1)));
+            Check.argument("3: row -1", () -> Check.nothing(() -> x.pay(p, -1, 0, 1, 1)));
+            Check.argument("3: column 3", () -> Check.nothing(() -> x.pay(p, 0, 3, 1, 1)));
+            Check.argument("3: column -1", () -> Check.nothing(() -> x.pay(p, 0, -1, 1, 1)));
             int[] wrongAbove = {-10000, 10000, MIN, MAX};
             for (int each : wrongAbove) {
-                Check.argument("3: above " + each, () -> nothing(() -> x.pay(p, 0, 0, each, 1)));
+                Check.argument("3: above " + each, () -> Check.nothing(() -> x.pay(p, 0, 0, each, 1)));
             }
             int[] wrongBelow = {0, 13, -1, MIN, MAX};
             for (int each : wrongBelow) {
-                Check.argument("3: below " + each, () -> nothing(() -> x.pay(p, 0, 0, 1, each)));
+                Check.argument("3: below " + each, () -> Check.nothing(() -> x.pay(p, 0, 0, 1, each)));
             }
             x.pay(p, 1, 2, -9999, 12);
             x.pay(p, 0, 2, 9999, 1);
         }
-        tellPure(x, 1, 2);
+        Games.tellPure(x, 1, 2);
         Check.due("3: the first player's sign", x.gets(-2, 0, 1), -1);
-        Check.due("3: -9999/12", hand(x), "-3333/4");
+        Check.due("3: -9999/12", Games.hand(x), "-3333/4");
         Check.due("3: the second player's", x.gets(-2, 1, 2), -1);
-        Check.due("3: -9999/12", hand(x), "-3333/4");
+        Check.due("3: -9999/12", Games.hand(x), "-3333/4");
         Check.due("3: another row", x.gets(-2, 0, 0), 1);
-        Check.due("3: 9999", hand(x), "9999/1");
+        Check.due("3: 9999", Games.hand(x), "9999/1");
         x.pay(0, 1, 2, 0, 7);
         Check.due("3: told anew", x.gets(-2, 0, 1), 0);
-        Check.due("3: told anew", hand(x), "0/1");
+        Check.due("3: told anew", Games.hand(x), "0/1");
     }
 
     private static void payForgets() {
-        BestReplies x = two();
-        tellPure(x, 0, 0);
+        BestReplies x = Games.two();
+        Games.tellPure(x, 0, 0);
         x.run(0);
         x.list();
         x.pay(0, 0, 1, 9, 1);
@@ -204,7 +165,7 @@ public final class PromisesTest {
         Check.due("3: it went", x.isThere(0, 1), false);
         x.run(0);
         x.list();
-        Check.argument("3: a wrong payoff", () -> nothing(() -> x.pay(0, 0, 0, 1, 13)));
+        Check.argument("3: a wrong payoff", () -> Check.nothing(() -> x.pay(0, 0, 0, 1, 13)));
         Check.due("3: it leaves the run", x.told(4), 0);
         Check.due("3: it leaves the list", x.told(3), 1);
         Check.due("3: it leaves what went", x.isThere(0, 1), false);
@@ -216,7 +177,7 @@ public final class PromisesTest {
     // ---- promises 4 and 5
 
     private static void run() {
-        BestReplies x = two();
+        BestReplies x = Games.two();
         int[] wrong = {-1, 4, MIN, MAX};
         for (int each : wrong) {
             Check.argument("4: label " + each, () -> x.run(each));
@@ -254,7 +215,7 @@ public final class PromisesTest {
     }
 
     private static void step() {
-        BestReplies x = two();
+        BestReplies x = Games.two();
         Check.state("5: no run", () -> x.step(-1, 5));
         x.list();
         Check.state("5: a list is no run", () -> x.step(0, 0));
@@ -283,26 +244,26 @@ public final class PromisesTest {
         x.game(2, 3);
         int[] wrongPlayers = {-1, 2, MIN, MAX};
         for (int each : wrongPlayers) {
-            Check.argument("6: player " + each, () -> nothing(() -> x.weight(each, 0, 1, 1)));
+            Check.argument("6: player " + each, () -> Check.nothing(() -> x.weight(each, 0, 1, 1)));
         }
         for (int player = 0; player < 2; player++) {
             int p = player;
             int[] wrongRows = {-1, 2 + p, MIN, MAX};
             for (int each : wrongRows) {
-                Check.argument("6: row " + each, () -> nothing(() -> x.weight(p, each, 1, 1)));
+                Check.argument("6: row " + each, () -> Check.nothing(() -> x.weight(p, each, 1, 1)));
             }
             int[] wrongNumbers = {-1, 1000, MIN, MAX};
             for (int each : wrongNumbers) {
-                Check.argument("6: above " + each, () -> nothing(() -> x.weight(p, 0, each, 1)));
-                Check.argument("6: below " + each, () -> nothing(() -> x.weight(p, 0, 1, each)));
+                Check.argument("6: above " + each, () -> Check.nothing(() -> x.weight(p, 0, each, 1)));
+                Check.argument("6: below " + each, () -> Check.nothing(() -> x.weight(p, 0, 1, each)));
             }
-            Check.argument("6: below 0", () -> nothing(() -> x.weight(p, 0, 1, 0)));
+            Check.argument("6: below 0", () -> Check.nothing(() -> x.weight(p, 0, 1, 0)));
         }
         x.weight(0, 1, 999, 999);
         x.weight(1, 2, 2, 3);
         x.weight(1, 0, 3, 9);
         Check.due("6: a weight", x.strategy(-2, 1, 0), 1);
-        Check.due("6: in least terms", hand(x), "1/3");
+        Check.due("6: in least terms", Games.hand(x), "1/3");
         x.weight(1, 0, 0, 999);
         Check.state("6: told anew", () -> x.judge(-2));
         x.weight(1, 1, 1, 3);
@@ -340,7 +301,7 @@ public final class PromisesTest {
     // ---- promise 7
 
     private static void list() {
-        BestReplies x = two();
+        BestReplies x = Games.two();
         Check.due("7: entries", x.list(), 3);
         Check.due("7: again", x.list(), 3);
         int[] supports = {1, 2, 3};
@@ -392,28 +353,6 @@ public final class PromisesTest {
         Check.due("7: more beside", z.list(), 0);
     }
 
-    /** Three pairs of like rows and columns: 4 of each pair, so 5 * 5 * 5 - 1 = 124 entries in all. */
-    private static void listStopsAtHundred() {
-        BestReplies x = new BestReplies();
-        x.game(6, 6);
-        for (int i = 0; i < 6; i++) {
-            for (int j = 0; j < 6; j++) {
-                x.pay(0, i, j, i / 2 == j / 2 ? 1 : 0, 1);
-                x.pay(1, i, j, i / 2 == j / 2 ? 1 : 0, 1);
-            }
-        }
-        Check.due("7: the first 100", x.list(), 100);
-        Check.due("7: told", x.told(3), 100);
-        Check.due("7: the last one's size", Integer.bitCount(x.support(99, 0)), 3);
-        Check.due("7: the 12 of size 1 come first", Integer.bitCount(x.support(11, 0)), 1);
-        Check.due("7: then 48 of size 2", Integer.bitCount(x.support(12, 0)), 2);
-        Check.due("7: then 48 of size 2", Integer.bitCount(x.support(59, 0)), 2);
-        Check.due("7: then those of size 3", Integer.bitCount(x.support(60, 0)), 3);
-        Check.due("7: the last one's sign", x.index(99), 1);
-        Check.state("7: none more", () -> x.judge(100));
-        Check.state("7: none more", () -> x.index(100));
-    }
-
     // ---- promises 8 to 12
 
     private static void wrongPlayers(String promise, BestReplies x, int source) {
@@ -428,10 +367,10 @@ public final class PromisesTest {
     }
 
     private static void support() {
-        BestReplies x = two();
+        BestReplies x = Games.two();
         x.run(1);
         x.list();
-        tellPure(x, 0, 1);
+        Games.tellPure(x, 0, 1);
         Check.due("8: told", x.support(-2, 0), 1);
         Check.due("8: told", x.support(-2, 1), 2);
         Check.due("8: run", x.support(-1, 0), 2);
@@ -439,17 +378,17 @@ public final class PromisesTest {
         wrongPlayers("8", x, -2);
         wrongPlayers("8", x, -1);
         wrongPlayers("8", x, 2);
-        Check.due("8: the number at hand stays", hand(x), "0/1");
+        Check.due("8: the number at hand stays", Games.hand(x), "0/1");
     }
 
     private static void strategy() {
-        BestReplies x = two();
+        BestReplies x = Games.two();
         x.list();
         String[][] due = {{"3/5", "2/5"}, {"1/4", "3/4"}};
         for (int player = 0; player < 2; player++) {
             for (int row = 0; row < 2; row++) {
                 Check.due("9: a sign", x.strategy(2, player, row), 1);
-                Check.due("9: a weight", hand(x), due[player][row]);
+                Check.due("9: a weight", Games.hand(x), due[player][row]);
             }
             int p = player;
             int[] wrong = {-1, 2, MIN, MAX};
@@ -458,65 +397,65 @@ public final class PromisesTest {
             }
         }
         Check.due("9: a weight of 0", x.strategy(0, 0, 1), 0);
-        Check.due("9: a weight of 0", hand(x), "0/1");
+        Check.due("9: a weight of 0", Games.hand(x), "0/1");
         x.run(0);
         Check.due("9: a run's", x.strategy(-1, 1, 0), 1);
-        Check.due("9: a run's", hand(x), "1/1");
+        Check.due("9: a run's", Games.hand(x), "1/1");
     }
 
     private static void gets() {
-        BestReplies x = two();
+        BestReplies x = Games.two();
         x.list();
         Check.due("10: row 0", x.gets(2, 0, 0), 1);
-        Check.due("10: row 0", hand(x), "3/4");
+        Check.due("10: row 0", Games.hand(x), "3/4");
         Check.due("10: own", x.gets(2, 1, -1), 1);
-        Check.due("10: own", hand(x), "3/5");
+        Check.due("10: own", Games.hand(x), "3/5");
         Check.due("10: against a pure one", x.gets(0, 0, 1), 0);
-        Check.due("10: against a pure one", hand(x), "0/1");
+        Check.due("10: against a pure one", Games.hand(x), "0/1");
         x.pay(0, 0, 1, -7, 2);
         x.weight(0, 0, 1, 3);
         x.weight(0, 1, 2, 3);
         x.weight(1, 0, 1, 4);
         x.weight(1, 1, 3, 4);
         Check.due("10: below 0", x.gets(-2, 0, 0), -1);
-        Check.due("10: 3/4 - 21/8", hand(x), "-15/8");
+        Check.due("10: 3/4 - 21/8", Games.hand(x), "-15/8");
         Check.due("10: own", x.gets(-2, 0, -1), -1);
-        Check.due("10: -15/24 + 3/4 * 2/3", hand(x), "-1/8");
+        Check.due("10: -15/24 + 3/4 * 2/3", Games.hand(x), "-1/8");
         Check.due("10: a column", x.gets(-2, 1, 1), 1);
-        Check.due("10: 3/2 * 2/3", hand(x), "1/1");
+        Check.due("10: 3/2 * 2/3", Games.hand(x), "1/1");
         int[] wrong = {-2, 2, MIN, MAX};
         for (int each : wrong) {
             Check.argument("10: row " + each, () -> x.gets(-2, 0, each));
             Check.argument("10: column " + each, () -> x.gets(-2, 1, each));
         }
-        Check.due("10: the number at hand stays", hand(x), "1/1");
+        Check.due("10: the number at hand stays", Games.hand(x), "1/1");
     }
 
     private static void replies() {
-        BestReplies x = two();
+        BestReplies x = Games.two();
         x.list();
         Check.due("11: both", x.replies(2, 0), 3);
-        Check.due("11: no more", hand(x), "0/1");
-        tellPure(x, 0, 1);
+        Check.due("11: no more", Games.hand(x), "0/1");
+        Games.tellPure(x, 0, 1);
         Check.due("11: the best row", x.replies(-2, 0), 2);
-        Check.due("11: how much more", hand(x), "1/1");
+        Check.due("11: how much more", Games.hand(x), "1/1");
         Check.due("11: the best column", x.replies(-2, 1), 1);
-        Check.due("11: how much more", hand(x), "1/1");
+        Check.due("11: how much more", Games.hand(x), "1/1");
         x.pay(0, 0, 1, -5, 2);
         Check.due("11: all below 0 or not", x.replies(-2, 0), 2);
-        Check.due("11: how much more", hand(x), "7/2");
+        Check.due("11: how much more", Games.hand(x), "7/2");
         x.pay(0, 1, 1, -5, 2);
         Check.due("11: alike and below 0", x.replies(-2, 0), 3);
-        Check.due("11: no more", hand(x), "0/1");
+        Check.due("11: no more", Games.hand(x), "0/1");
     }
 
     private static void judge() {
-        BestReplies x = two();
+        BestReplies x = Games.two();
         x.list();
         x.strategy(2, 0, 0);
-        tellPure(x, 0, 1);
+        Games.tellPure(x, 0, 1);
         Check.due("12: neither", x.judge(-2), false);
-        tellPure(x, 1, 1);
+        Games.tellPure(x, 1, 1);
         Check.state("12: together 2", () -> x.judge(-2));
         x.weight(0, 0, 0, 1);
         Check.due("12: an equilibrium", x.judge(-2), true);
@@ -533,13 +472,13 @@ public final class PromisesTest {
         x.weight(0, 0, 1, 5);
         x.weight(0, 1, 4, 5);
         Check.due("12: the columns are no best replies", x.judge(-2), false);
-        Check.due("12: the number at hand stays", hand(x), "3/5");
+        Check.due("12: the number at hand stays", Games.hand(x), "3/5");
     }
 
     // ---- promises 13 to 15
 
     private static void index() {
-        BestReplies x = two();
+        BestReplies x = Games.two();
         Check.state("13: no list", () -> x.index(0));
         x.run(0);
         Check.state("13: a run is no list", () -> x.index(0));
@@ -614,43 +553,23 @@ public final class PromisesTest {
 
     // ---- promises 16 to 18
 
-    /** Payoffs d on the diagonal alone: of all rows each one's weight is as 1 / d. */
     private static void part() {
-        int[] d = {9973, 9967, 9949, 9941, 9931, 9929};
-        BestReplies x = new BestReplies();
-        x.game(6, 6);
-        BigInteger all = BigInteger.ONE;
-        BigInteger sum = BigInteger.ZERO;
-        for (int i = 0; i < 6; i++) {
-            x.pay(0, i, i, d[i], 1);
-            x.pay(1, i, i, d[i], 1);
-            all = all.multiply(BigInteger.valueOf(d[i]));
-        }
-        for (int each : d) {
-            sum = sum.add(all.divide(BigInteger.valueOf(each)));
-        }
-        Check.due("16: entries", x.list(), 63);
-        for (int i = 0; i < 6; i++) {
-            x.strategy(62, 0, i);
-            BigInteger above = all.divide(BigInteger.valueOf(d[i]));
-            BigInteger common = above.gcd(sum);
-            String due = above.divide(common) + "/" + sum.divide(common);
-            Check.due("16: more than eight bytes", hand(x), due);
-        }
-        Check.due("16: a second part", x.part(false, 1) != 0, true);
-        int[] beyond = {2, 6, 7, 100, 1 << 25, 1 << 26, MAX};
-        for (int each : beyond) {
-            Check.due("16: beyond", x.part(false, each), 0);
-            Check.due("16: beyond", x.part(true, each), 0);
-        }
+        BestReplies x = Games.two();
+        x.list();
+        x.strategy(2, 0, 0);
+        Check.due("16: the numerator", x.part(false, 0), 3);
+        Check.due("16: the denominator", x.part(true, 0), 5);
+        Check.due("16: beyond", x.part(false, 1), 0);
+        Check.due("16: beyond", x.part(true, MAX), 0);
         Check.bounds("16: k -1", () -> x.part(true, -1));
         Check.bounds("16: k least", () -> x.part(false, MIN));
+        Check.due("16: the number at hand stays", Games.hand(x), "3/5");
     }
 
     private static void sign() {
         BestReplies x = new BestReplies();
         x.game(1, 1);
-        tellPure(x, 0, 0);
+        Games.tellPure(x, 0, 0);
         int[] above = {-5, 0, 5};
         for (int each : above) {
             x.pay(0, 0, 0, each, 3);
@@ -693,7 +612,7 @@ public final class PromisesTest {
     // ---- what holds for all
 
     private static void sourcesInOrder() {
-        BestReplies x = two();
+        BestReplies x = Games.two();
         int[] none = {-3, -2, -1, 0, 1, MIN, MAX};
         for (int each : none) {
             Check.state("sources: support " + each, () -> x.support(each, 7));
@@ -712,10 +631,10 @@ public final class PromisesTest {
     }
 
     private static void throwingChangesNothing() {
-        BestReplies x = two();
+        BestReplies x = Games.two();
         x.run(3);
         x.list();
-        tellPure(x, 0, 0);
+        Games.tellPure(x, 0, 0);
         x.strategy(2, 1, 1);
         Check.argument("wrong: strategy", () -> x.strategy(0, 0, 2));
         Check.argument("wrong: gets", () -> x.gets(0, 0, 2));
@@ -723,14 +642,14 @@ public final class PromisesTest {
         Check.state("wrong: strategy", () -> x.strategy(3, 0, 0));
         Check.state("wrong: gets", () -> x.gets(3, 0, 0));
         Check.state("wrong: replies", () -> x.replies(3, 0));
-        Check.argument("wrong: weight", () -> nothing(() -> x.weight(0, 0, 1, 0)));
-        Check.argument("wrong: pay", () -> nothing(() -> x.pay(0, 0, 0, 1, 0)));
+        Check.argument("wrong: weight", () -> Check.nothing(() -> x.weight(0, 0, 1, 0)));
+        Check.argument("wrong: pay", () -> Check.nothing(() -> x.pay(0, 0, 0, 1, 0)));
         Check.argument("wrong: run", () -> x.run(9));
-        Check.due("wrong: the number at hand", hand(x), "3/4");
+        Check.due("wrong: the number at hand", Games.hand(x), "3/4");
         Check.due("wrong: the run", x.told(4), 3);
         Check.due("wrong: the list", x.told(3), 3);
         Check.due("wrong: weights told", x.judge(-2), true);
         Check.due("wrong: payoffs", x.gets(-2, 0, -1), 1);
-        Check.due("wrong: payoffs", hand(x), "3/1");
+        Check.due("wrong: payoffs", Games.hand(x), "3/1");
     }
 }

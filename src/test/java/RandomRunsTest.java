@@ -3,9 +3,15 @@ import java.util.Random;
 /** All promises: the answers of many games, and of wild runs of calls, against those of Reference. */
 public final class RandomRunsTest {
     private static final int[] DENOMINATORS = {5, 7, 8, 9, 11, 12};
+    /** Its determinant is 9 or -9, and none of 0 and 1 has a larger one. */
+    private static final int[][] LARGEST = {
+        {0, 0, 1, 0, 0, 1}, {1, 0, 1, 1, 1, 0}, {1, 1, 1, 1, 0, 0}, {1, 1, 0, 0, 1, 1}, {0, 1, 0, 1, 1, 1},
+        {0, 1, 1, 0, 1, 0},
+    };
 
     public static void main(String[] args) {
         Random random = new Random(20261115);
+        largestNumbers(random);
         for (int i = 0; i < 220; i++) {
             wholeGame(new Pair("game " + i), random, i);
         }
@@ -13,6 +19,34 @@ public final class RandomRunsTest {
             wildRun(new Pair("wild run " + i), random);
         }
         Check.finish();
+    }
+
+    /**
+     * Payoffs of both ends, placed so that the determinant is the largest that six rows of two numbers can have, and
+     * five cells whose denominators have the largest multiple, 27720.
+     */
+    private static void largestNumbers(Random random) {
+        int[][] low = {{0, 0}, {0, 3}, {1, 1}, {2, 5}, {4, 2}};
+        int[] below = {5, 7, 8, 9, 11};
+        for (int kind = 0; kind < 4; kind++) {
+            Pair pair = new Pair("largest numbers " + kind);
+            pair.game(6, 6);
+            for (int i = 0; i < 6; i++) {
+                for (int j = 0; j < 6; j++) {
+                    boolean isFirst = LARGEST[i][j] == 1;
+                    boolean isSecond = kind % 2 == 0 ? !isFirst : LARGEST[j][i] == 1;
+                    pair.pay(0, i, j, isFirst ? 9999 : -9999, 1);
+                    pair.pay(1, i, j, isSecond ? 9999 : -9999, 1);
+                }
+            }
+            for (int k = 0; k < low.length; k++) {
+                pair.pay(0, low[k][0], low[k][1], kind < 2 ? 9997 : -9997, below[k]);
+                pair.pay(1, low[k][1], low[k][0], kind < 2 ? -9997 : 9997, below[k]);
+            }
+            askBig(pair, random, 6, 6);
+            pair.told(5);
+            pair.told(6);
+        }
     }
 
     /** One game, all that can be asked of it. */

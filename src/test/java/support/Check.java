@@ -29,6 +29,12 @@ final class Check {
         }
     }
 
+    /** For a call without an answer. */
+    static String nothing(Runnable call) {
+        call.run();
+        return "nothing";
+    }
+
     static void state(String what, Call call) {
         due(what, outcome(call), "throws.IllegalStateException");
     }
