@@ -21,32 +21,39 @@ public final class RandomRunsTest {
         Check.finish();
     }
 
-    /**
-     * Payoffs of both ends, placed so that the determinant is the largest that six rows of two numbers can have, and
-     * five cells whose denominators have the largest multiple, 27720.
-     */
+    /** Payoffs of both ends, and five cells whose denominators have the largest multiple, 27720. */
     private static void largestNumbers(Random random) {
-        int[][] low = {{0, 0}, {0, 3}, {1, 1}, {2, 5}, {4, 2}};
+        int[][] cells = {{0, 1}, {0, 3}, {1, 2}, {2, 5}, {4, 3}};
         int[] below = {5, 7, 8, 9, 11};
-        for (int kind = 0; kind < 4; kind++) {
+        for (int kind = 0; kind < 6; kind++) {
             Pair pair = new Pair("largest numbers " + kind);
             pair.game(6, 6);
             for (int i = 0; i < 6; i++) {
                 for (int j = 0; j < 6; j++) {
-                    boolean isFirst = LARGEST[i][j] == 1;
-                    boolean isSecond = kind % 2 == 0 ? !isFirst : LARGEST[j][i] == 1;
-                    pair.pay(0, i, j, isFirst ? 9999 : -9999, 1);
-                    pair.pay(1, i, j, isSecond ? 9999 : -9999, 1);
+                    largestPayoffs(pair, kind, i, j);
                 }
             }
-            for (int k = 0; k < low.length; k++) {
-                pair.pay(0, low[k][0], low[k][1], kind < 2 ? 9997 : -9997, below[k]);
-                pair.pay(1, low[k][1], low[k][0], kind < 2 ? -9997 : 9997, below[k]);
+            for (int k = 0; k < cells.length; k++) {
+                pair.pay(0, cells[k][0], cells[k][1], kind % 2 == 0 ? 9997 : -9997, below[k]);
+                pair.pay(1, cells[k][1], cells[k][0], kind % 2 == 0 ? -9997 : 9997, below[k]);
             }
-            askBig(pair, random, 6, 6);
             pair.told(5);
             pair.told(6);
+            askBig(pair, random, 6, 6);
         }
+    }
+
+    private static void largestPayoffs(Pair pair, int kind, int i, int j) {
+        boolean isFirst = LARGEST[i][j] == 1;
+        boolean isSecond = LARGEST[j][i] == 1;
+        if (kind < 2) {
+            isSecond = !isFirst;
+        } else if (kind >= 4) { // Both want the same, so that there is an entry with all rows and columns.
+            isFirst = i == j;
+            isSecond = i == j;
+        }
+        pair.pay(0, i, j, isFirst ? 9999 - i : -9999, 1);
+        pair.pay(1, i, j, isSecond ? 9999 - 7 * i : -9999, 1);
     }
 
     /** One game, all that can be asked of it. */
