@@ -11,11 +11,12 @@ import java.util.regex.Pattern;
 
 /** What of LANGUAGE.md can be seen from the class and from its text. */
 public final class LanguageTest {
+    /** Each method with what the document's face says that it throws: S for a state, A an argument, B bounds. */
     private static final String[] FACE = {
-        "void game(int,int)", "void pay(int,int,int,int,int)", "int run(int)", "int step(int,int)",
-        "void weight(int,int,int,int)", "int list()", "int support(int,int)", "int strategy(int,int,int)",
-        "int gets(int,int,int)", "int replies(int,int)", "boolean judge(int)", "int index(int)", "int round()",
-        "boolean isThere(int,int)", "long part(boolean,int)", "int sign()", "int told(int)",
+        "void game(int,int) A", "void pay(int,int,int,int,int) SA", "int run(int) SA", "int step(int,int) SBA",
+        "void weight(int,int,int,int) SA", "int list() S", "int support(int,int) SA", "int strategy(int,int,int) SA",
+        "int gets(int,int,int) SA", "int replies(int,int) SA", "boolean judge(int) S", "int index(int) S",
+        "int round() S", "boolean isThere(int,int) SA", "long part(boolean,int) B", "int sign() ", "int told(int) A",
     };
     private static final String[] NEVER = {
         "->", "::", "\\bcatch\\b", "\\btry\\b", "\\bfinally\\b", "\\bsynchronized\\b", "\\bassert\\b", "Exact\\s*\\(",
@@ -59,7 +60,21 @@ public final class LanguageTest {
         for (Class<?> each : method.getParameterTypes()) {
             made.append(made.charAt(made.length() - 1) == '(' ? "" : ",").append(each.getName());
         }
-        return made.append(')').toString();
+        made.append(") ");
+        for (Class<?> each : method.getExceptionTypes()) {
+            made.append(letter(each));
+        }
+        return made.toString();
+    }
+
+    private static String letter(Class<?> exception) {
+        if (exception == IllegalStateException.class) {
+            return "S";
+        }
+        if (exception == IllegalArgumentException.class) {
+            return "A";
+        }
+        return exception == IndexOutOfBoundsException.class ? "B" : exception.getName();
     }
 
     private static void inside() {
